@@ -84,7 +84,7 @@ public final class TrueMaps {
             case 2:
                 return world.isWrong(cell) ? 1 : 0;
             case 3:
-                return world.wrongBeside(cell);
+                return Long.bitCount(world.wrong & beside(1L << cell));
             default:
                 return world.mendersAt(cell);
         }
@@ -185,10 +185,11 @@ public final class TrueMaps {
         if (noMender(mender) || noCell(cell)) {
             return finding(BEYOND);
         }
-        if (!world.isWrong(cell) || world.purses[mender] < world.costOf(mender, cell)) {
+        int price = world.costOf(mender, cell);
+        if (!world.isWrong(cell) || world.purses[mender] < price) {
             return finding(STATE);
         }
-        world.payAndMend(mender, cell, world.costOf(mender, cell));
+        world.payAndMend(mender, cell, price);
         return world.howManyWrong();
     }
 
@@ -201,9 +202,8 @@ public final class TrueMaps {
         if (world.year + n > MOST_YEAR) {
             return finding(STATE);
         }
-        world.passYears(n, NOBODY);
         world.year += n;
-        return world.howManyWrong();
+        return world.passYears(n, NOBODY);
     }
 
     public int now(int what) {
@@ -245,7 +245,7 @@ public final class TrueMaps {
             return finding(BEYOND);
         }
         trial.become(world);
-        return trial.wrongAfterYears(n, NOBODY);
+        return trial.passYears(n, NOBODY);
     }
 
     public int done() {
@@ -268,11 +268,14 @@ public final class TrueMaps {
             return finding(BEYOND);
         }
         int found = -1;
-        int least = Integer.MAX_VALUE;
+        int least = 0;
         for (int c = 0; c < CELLS; c++) {
-            if (world.isWrong(c) && world.costOf(mender, c) < least) {
-                least = world.costOf(mender, c);
-                found = c;
+            if (world.isWrong(c)) {
+                int price = world.costOf(mender, c);
+                if (found < 0 || price < least) {
+                    least = price;
+                    found = c;
+                }
             }
         }
         return found < 0 ? finding(NONE) : found;
@@ -316,7 +319,7 @@ public final class TrueMaps {
         for (int k = 0; k < KINDS; k++) {
             trial.become(world);
             trial.kinds[mender] = k;
-            int wrongThen = trial.wrongAfterYears(n, NOBODY);
+            int wrongThen = trial.passYears(n, NOBODY);
             if (wrongThen < fewest) {
                 fewest = wrongThen;
                 found = k;
@@ -329,9 +332,11 @@ public final class TrueMaps {
         if (noMender(mender) || outside(n, 0, MOST_TRIED_YEARS)) {
             return finding(BEYOND);
         }
-        int enough = wrongWithPurse(mender, MOST_TRIED_PURSE, n);
+        tryPurse(mender, MOST_TRIED_PURSE);
+        int enough = trial.passYears(n, NOBODY);
         for (int p = 0; p < MOST_TRIED_PURSE; p++) {
-            if (wrongWithPurse(mender, p, n) <= enough) {
+            tryPurse(mender, p);
+            if (trial.passYears(n, NOBODY) <= enough) {
                 return p;
             }
         }
@@ -346,7 +351,7 @@ public final class TrueMaps {
         int most = -1;
         for (int m = 0; m < world.menders; m++) {
             trial.become(world);
-            int wrongThen = trial.wrongAfterYears(n, m);
+            int wrongThen = trial.passYears(n, m);
             if (wrongThen > most) {
                 most = wrongThen;
                 found = m;
@@ -484,7 +489,7 @@ public final class TrueMaps {
         trial.become(world);
         for (int i = 0; i < sheet.size; i++) {
             sheet.put(i, trial.howManyWrong());
-            trial.passYear(NOBODY);
+            trial.passYears(1, NOBODY);
         }
         return sheet.size;
     }
@@ -616,7 +621,7 @@ public final class TrueMaps {
             if ((trial.wrong & some) == 0) {
                 return year;
             }
-            trial.passYear(NOBODY);
+            trial.passYears(1, NOBODY);
         }
         return (trial.wrong & some) == 0 ? MOST_YEARS : -1;
     }
@@ -642,10 +647,9 @@ public final class TrueMaps {
         return found;
     }
 
-    private int wrongWithPurse(int mender, int purse, int n) {
+    private void tryPurse(int mender, int purse) {
         trial.become(world);
         trial.purses[mender] = purse;
-        return trial.wrongAfterYears(n, NOBODY);
     }
 
     private boolean trialGoesAs(Sheet sheet) {
@@ -653,7 +657,7 @@ public final class TrueMaps {
             if (sheet.numbers[i] != trial.howManyWrong()) {
                 return false;
             }
-            trial.passYear(NOBODY);
+            trial.passYears(1, NOBODY);
         }
         return true;
     }
@@ -729,10 +733,6 @@ public final class TrueMaps {
             return Long.bitCount(wrong);
         }
 
-        int wrongBeside(int cell) {
-            return Long.bitCount(wrong & beside(1L << cell));
-        }
-
         int mendersAt(int cell) {
             int set = 0;
             for (int m = 0; m < menders; m++) {
@@ -763,18 +763,19 @@ public final class TrueMaps {
 
         int costOf(int mender, int cell) {
             int plainCost = 3 * Math.abs(land[cell] - map[cell]) + 2;
+            int besideIt = Long.bitCount(wrong & beside(1L << cell));
             int dugCost = isEither(cell, WATER) ? plainCost / 2 : plainCost;
             switch (kinds[mender]) {
                 case DIGGER:
                     return dugCost;
                 case CLERK:
-                    return plainCost + wrongBeside(cell);
+                    return plainCost + besideIt;
                 case BRIBER:
-                    return 2 * (4 + wrongBeside(cell));
+                    return 2 * (4 + besideIt);
                 case MOVER:
                     return isEither(cell, VILLAGE) ? Math.max(1, dugCost - 5) : dugCost;
                 case INSURER:
-                    return Math.max(1, plainCost + wrongBeside(cell) - purses[mender] / 10);
+                    return Math.max(1, plainCost + besideIt - purses[mender] / 10);
                 default:
                     return plainCost;
             }
@@ -903,13 +904,16 @@ public final class TrueMaps {
             return found;
         }
 
-        /** A year for all but an idle one; the number of the year is the caller's. */
-        void passYear(int idle) {
-            for (int m = 0; m < menders && wrong != 0; m++) {
-                if (m != idle) {
-                    workOneYear(m);
+        /** Years for all but an idle one: how many are wrong then. The number of the year is the caller's. */
+        int passYears(int n, int idle) {
+            for (int i = 0; i < n && wrong != 0; i++) {
+                for (int m = 0; m < menders; m++) {
+                    if (m != idle) {
+                        workOneYear(m);
+                    }
                 }
             }
+            return howManyWrong();
         }
 
         void workOneYear(int mender) {
@@ -922,17 +926,6 @@ public final class TrueMaps {
                 payAndMend(mender, goal, price);
             }
             purses[mender] = Math.min(MOST_PURSE, purses[mender] + income);
-        }
-
-        void passYears(int n, int idle) {
-            for (int i = 0; i < n; i++) {
-                passYear(idle);
-            }
-        }
-
-        int wrongAfterYears(int n, int idle) {
-            passYears(n, idle);
-            return howManyWrong();
         }
     }
 

@@ -65,6 +65,9 @@ public final class PromisesTest {
         tear();
         count();
         status();
+        firstCell();
+        allCells();
+        fullTape();
         due.end();
     }
 
@@ -398,13 +401,38 @@ public final class PromisesTest {
         due.same("briber", briber.mend(0, 20), 0);
         due.same("briber drowns no roads", briber.cells(6), 1L << 21);
 
-        TrueMaps paid = withMender(0, 0);
-        for (int i = 0; i < 12; i++) {
-            paid.set(0, 2, 9999);
-            paid.draw(0, 1, i % 2 == 0 ? ROAD : PLAIN);
-            paid.mend(0, 0);
+        paidIsHeld();
+    }
+
+    private static void paidIsHeld() {
+        TrueMaps x = withMender(0, 0);
+        x.income(0);
+        x.sheet(0, 8, 40);
+        x.sheet(1, 8, 40);
+        for (int i = 0; i < 40; i++) {
+            x.write(1, i, ROAD);
         }
-        due.same("paid adds up", paid.of(0, 3), 12 * 17);
+        for (int round = 0; round < 147; round++) {
+            if (round % 14 == 0) {
+                x.set(0, 2, 9999);
+            }
+            x.lays(1 - round % 2);
+            x.years(40);
+        }
+        due.same("paid adds up", x.of(0, 3), 147 * 40 * 17);
+        x.draw(47, 1, ROAD);
+        x.draw(46, 1, HILL);
+        x.draw(45, 1, WOOD);
+        due.same("years hold it", x.on(0, 2, 2), 99991);
+        due.same("years hold it", x.on(0, 3, 2), 99999);
+        x.mend(0, 47);
+        x.mend(0, 46);
+        due.same("below", x.of(0, 3), 99991);
+        x.mend(0, 45);
+        due.same("just there", x.of(0, 3), 99999);
+        x.draw(44, 1, WOOD);
+        x.mend(0, 44);
+        due.same("held", x.of(0, 3), 99999);
     }
 
     // Promise 13
@@ -704,6 +732,9 @@ public final class PromisesTest {
         }
         due.same("15 roads of 17 are all of 255", x.purse(0, 20), 255);
         due.same("purse stays", x.of(0, 2), 50);
+        TrueMaps not256 = withMender(0, 0);
+        mapOf(not256, "map 0 road to 13;map 14 wood;map 46 water to 47;income 0");
+        due.same("256 would make all true, 255 all but one", not256.purse(0, 20), 251);
         TrueMaps fewer = withMender(0, 0);
         fewer.draw(20, 1, VILLAGE);
         due.same("as few or fewer", fewer.purse(0, 1), 0);
@@ -896,6 +927,10 @@ public final class PromisesTest {
         fault("income 3" + (char) 200, 8);
         fault("income 3" + (char) 0, 8);
         fault("water 3", 0);
+        fault("xand 3 water", 0);
+        fault("landz 3 water", 0);
+        fault("alanda 3 water", 0);
+        fault("lan 3 water", 0);
         fault("at 3", 0);
         TrueMaps just = new TrueMaps();
         due.same("to itself", mapOf(just, "land 4 water to 4"), 1);
@@ -1229,5 +1264,78 @@ public final class PromisesTest {
         due.same("counted", x.status(0), 2);
         due.same("status -2", x.status(-2), BEYOND);
         due.same("counted", x.status(-1), 9);
+    }
+
+    // Cell 0 is a cell like others, and no sign that there is none.
+    private static void firstCell() {
+        TrueMaps x = withMender(0, 0);
+        x.mender(5, 9);
+        x.draw(0, 1, ROAD);
+        due.same("goes for 0", x.of(0, 4), 0);
+        due.same("cost of 0", x.of(0, 5), 17);
+        due.same("insurer goes for 0", x.of(1, 4), 0);
+        due.same("insurer's cost of 0", x.of(1, 5), 12);
+        due.same("cheapest is 0", x.cheapest(0), 0);
+        due.same("best is 0", x.best(0), 0);
+        due.same("when 0", x.when(0), 1);
+        x.draw(1, 1, HILL);
+        due.same("0, then 1", x.two(0), 1);
+        due.same("left", x.left(0), 0);
+        x.draw(0, 0, ROAD);
+        due.same("count of land", x.count(2), 1);
+        due.same("count of map", x.count(3), 2);
+
+        TrueMaps spoilt = withMender(0, 0);
+        spoilt.draw(1, 1, VILLAGE);
+        spoilt.draw(46, 1, VILLAGE);
+        spoilt.draw(38, 0, WOOD);
+        spoilt.draw(38, 1, WOOD);
+        due.same("0 would be spoilt, too", spoilt.best(0), 46);
+        spoilt.mend(0, 1);
+        due.same("0 is spoilt, too", spoilt.cell(0, 0), ROAD);
+
+        TrueMaps below = withMender(0, 0);
+        below.draw(8, 1, VILLAGE);
+        below.mend(0, 8);
+        due.same("0 is above 8", below.cells(6), 1L | 1L << 9 | 1L << 16);
+        due.same("8, then 0", mapOf(below, "land 0 plain to 47"), 1);
+        due.same("8, then 0", below.two(0), 800);
+        due.same("left", below.left(0), 2);
+    }
+
+    private static void allCells() {
+        TrueMaps x = withMender(0, 47);
+        mapOf(x, "map 0 hill to 47");
+        due.same("all wrong", x.now(1), 48);
+        due.same("best of all", x.best(0), 0);
+        due.same("two of all", x.two(0), 1);
+        due.same("left of all", x.left(0), 46);
+        due.same("cheapest of all", x.cheapest(0), 0);
+        due.same("four beside", x.cell(9, 3), 4);
+        due.same("three beside", x.cell(8, 3), 3);
+        due.same("three beside", x.cell(15, 3), 3);
+        due.same("two beside", x.cell(47, 3), 2);
+    }
+
+    private static void fullTape() {
+        String blanks = " ".repeat(120);
+        TrueMaps x = new TrueMaps();
+        due.same("ends in blanks", mapOf(x, "income 1" + blanks.substring(8)), 1);
+        due.same("ends in a number", mapOf(x, blanks.substring(8) + "income 1"), 1);
+        due.same("ends in a word", mapOf(x, blanks.substring(11) + "land 3 road"), 1);
+        due.same("ends in a word that is not all", mapOf(x, blanks.substring(6) + "income"), -121);
+        due.same("ends in a sign", mapOf(x, blanks.substring(9) + "income 1;"), -121);
+        due.same("blanks alone", mapOf(x, blanks), -121);
+        due.same("digits alone", mapOf(x, "9".repeat(120)), -1);
+        due.same("letters alone", mapOf(x, "a".repeat(120)), -1);
+        due.same("signs alone", mapOf(x, ";".repeat(120)), -1);
+        due.same("many digits", mapOf(x, "income " + "0".repeat(112) + "9"), 1);
+        due.same("many digits", x.now(4), 9);
+        StringBuilder most = new StringBuilder("income1");
+        for (int i = 1; i < 14; i++) {
+            most.append(";income").append(i % 10);
+        }
+        due.same("many items", mapOf(x, most.toString()), 14);
+        due.same("many items", x.now(4), 3);
     }
 }
