@@ -511,6 +511,11 @@ public final class PromisesTest {
         due.same("now wrong", x.now(1), 0);
         due.same("now purses", x.now(2), 231);
         due.same("now paid", x.now(3), 19);
+        for (int m = 2; m < 6; m++) {
+            x.mender(0, 0);
+        }
+        due.same("now purses of six", x.now(2), 431);
+        due.same("now paid of six", x.now(3), 19);
         due.same("now -1", x.now(-1), BEYOND);
         due.same("now 5", x.now(5), BEYOND);
     }
