@@ -1316,6 +1316,8 @@ public final class PromisesTest {
         due.same("two of all", x.two(0), 1);
         due.same("left of all", x.left(0), 46);
         due.same("cheapest of all", x.cheapest(0), 0);
+        x.set(0, 2, 12);
+        due.same("only a briber mends one of all, in a corner", x.kind(0, 1), 3);
         due.same("four beside", x.cell(9, 3), 4);
         due.same("three beside", x.cell(8, 3), 3);
         due.same("three beside", x.cell(15, 3), 3);
