@@ -72,8 +72,13 @@ public final class PromisesTest {
     }
 
     private static void feedText(TrueMaps x, String text) {
-        for (int i = 0; i < text.length(); i++) {
-            x.feed(text.charAt(i), 1);
+        for (int i = 0; i < text.length(); i += 4) {
+            int n = Math.min(4, text.length() - i);
+            int bytes = 0;
+            for (int k = 0; k < n; k++) {
+                bytes = bytes << 8 | text.charAt(i + k);
+            }
+            x.feed(bytes, n);
         }
     }
 
