@@ -16,6 +16,7 @@ public final class BestEdgesTest {
         noTwoCanBe();
         twoThatCanBe();
         twoOfSeveral();
+        mendedBesideEachCell();
         kindIsHeld();
         kindOfSeveral();
         purseIsHeld();
@@ -143,6 +144,25 @@ public final class BestEdgesTest {
         edges.asks(wanted, "left(0)", 0);
     }
 
+    // "MENDED: a CELL as a MENDER mends it .. nothing changes": it spoils those beside that there are.
+    private static void mendedBesideEachCell() {
+        Story roads = one.fed("land 0 road to 47;map 0 road to 47").then("map()");
+        for (int c = 0; c < 48; c++) {
+            int there = Long.bitCount(Edges.beside(c));
+            int least = Long.numberOfTrailingZeros(Edges.beside(c));
+            Story village = one.then("draw(" + c + ", 1, 3)");
+            edges.asks(village, "two(0)", 100 * c + least);
+            edges.asks(village, "left(0)", there - 1);
+            Story water = roads.then("draw(" + c + ", 1, 1)");
+            edges.asks(water, "two(0)", 100 * c + least);
+            edges.asks(water, "left(0)", there - 1);
+            // Two villages in opposite corners leave as many; one that spoils more is the worse one.
+            int corner = c == 47 || c == 46 || c == 39 ? 0 : 47;
+            Story other = village.then("draw(" + corner + ", 1, 3)");
+            edges.asks(other, "best(0)", there > 2 ? corner : Math.min(c, corner));
+        }
+    }
+
     // "ON n YEARS (0 to 60)".
     private static void kindIsHeld() {
         edges.range(one, "kind(0, #)", 0, 60);
@@ -172,6 +192,11 @@ public final class BestEdgesTest {
             "draw(21, 0, 5)", "draw(28, 0, 5)", "draw(12, 0, 2)", "draw(12, 1, 1)", "draw(19, 0, 2)", "draw(19, 1, 1)");
         edges.asks(dearest, "kind(0, 1)", 5);
         edges.asks(dearest, "of(0, 0)", 0);
+        // With all 48 wrong, only a briber's purse is enough.
+        Story all = fresh.fed("map 0 hill to 47").then("map()", "mender(0, 47)", "set(0, 2, 12)");
+        edges.asks(all, "kind(0, 1)", 3);
+        edges.asks(all.then("set(0, 2, 11)"), "kind(0, 1)", 0);
+        edges.asks(all.then("set(0, 2, 14)"), "kind(0, 1)", 0);
     }
 
     // "ON n YEARS (0 to 20)".

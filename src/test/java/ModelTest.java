@@ -52,7 +52,7 @@ public final class ModelTest {
         for (int i = 0; i < opening; i++) {
             call(random.nextInt(6) == 0 ? "mender kc" : "draw cws");
         }
-        while (told.size() < 500 && !due.anyWrong()) {
+        while (told.size() < 480 && !due.anyWrong()) {
             String call = CALLS[random.nextInt(CALLS.length)];
             if (call.equals("TEXT")) {
                 text();

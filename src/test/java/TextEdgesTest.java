@@ -12,6 +12,7 @@ public final class TextEdgesTest {
     private static final String[] TOKENS = {
         "mender", "digger", "clerk", "briber", "mover", "insurer", "plain", "water", "wood", "village", "hill", "road",
         "land", "map", "income", "at", "purse", "to", "x", "menders", "mende", "lands", "Land",
+        "xender", "xand", "xap", "xncome", "xt", "xurse", "xo", "xoad",
         "0", "00", "6", "7", "8", "20", "21", "47", "48", "050", "9998", "9999", "10000", "09999", "99999",
         "4294967303", "18446744073709551623", ";", ",", "-", "!",
     };
